@@ -1,0 +1,52 @@
+/** Counts what is not as it is due, and ends a test program. */
+final class Check {
+    static final int INVALID = -2000001;
+    static final int NOT_POSSIBLE = -2000002;
+    static final int LIMIT = -2000003;
+    static final int NOT_FOUND = -2000004;
+
+    private static int checks = 0;
+    private static int wrong = 0;
+
+    private Check() {
+    }
+
+    static void due(String what, long got, long due) {
+        checks++;
+        if (got != due) {
+            wrong++;
+            System.out.println(what + " answered " + got + ", due is " + due);
+        }
+    }
+
+    static void holds(String what, boolean condition) {
+        due(what, condition ? 1 : 0, 1);
+    }
+
+    static boolean allRight() {
+        return wrong == 0;
+    }
+
+    static void end() {
+        System.out.println(checks + " checks, " + wrong + " wrong");
+        if (wrong != 0 || checks == 0) {
+            System.exit(1);
+        }
+    }
+
+    /** Types a whole text. */
+    static void type(ChargeLines lines, String text) {
+        for (int i = 0; i < text.length(); i++) {
+            lines.type(text.charAt(i));
+        }
+    }
+
+    /** Makes an object with settings as after set(0, ..), set(1, ..) and begin(..). */
+    static ChargeLines line(int stages, int capacity, int period) {
+        ChargeLines lines = new ChargeLines();
+        lines.begin(stages);
+        lines.set(0, capacity);
+        lines.set(1, period);
+        return lines;
+    }
+}
