@@ -19,6 +19,7 @@ public final class AnswersTest {
         promise11Errors();
         promise11ErrorsWithoutReferences();
         promise11ErrorsMean();
+        promise11ErrorsMeanOfFew();
         promise11ErrorsWrong();
         promise12Account();
         promise12AccountWrong();
@@ -335,6 +336,24 @@ public final class AnswersTest {
             }
             Check.due("many " + many, x.errors(0), many);
             Check.due("mean of " + many, x.errors(3), Float.floatToIntBits((float) sum / (float) many));
+        }
+    }
+
+    /** Samples of 4 lose 1, those of 7 lose 2, and those of 3 nothing. */
+    private static void promise11ErrorsMeanOfFew() {
+        int[][] samples = {{4}, {7}, {4, 7}, {7, 7, 7}, {4, 3}, {4, 3, 3}, {4, 4, 3, 3, 3, 3, 3},
+            {4, 3, 3, 3, 3, 3, 3, 3, 3, 3, 3, 3, 3, 3, 3, 3}};
+        float[] means = {1f, 2f, 1.5f, 2f, 0.5f, 1f / 3f, 2f / 7f, 0.0625f};
+        for (int i = 0; i < samples.length; i++) {
+            ChargeLines x = Check.line(2, 20000, 0);
+            x.stage(1, 0, 300);
+            for (int sample : samples[i]) {
+                x.give(sample);
+            }
+            x.give(0);
+            x.give(0);
+            Check.due("many", x.errors(0), samples[i].length);
+            Check.due("mean " + means[i], x.errors(3), Float.floatToIntBits(means[i]));
         }
     }
 

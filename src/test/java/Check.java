@@ -23,6 +23,10 @@ final class Check {
         due(what, condition ? 1 : 0, 1);
     }
 
+    static int count() {
+        return checks;
+    }
+
     static boolean allRight() {
         return wrong == 0;
     }

@@ -51,8 +51,10 @@ public final class LineTest {
     private static void promise2Begin() {
         ChargeLines x = Check.line(2, 20000, 2);
         x.set(2, 700);
+        x.stage(0, 0, 100);
         Check.due("give", x.give(100), 2);
         Check.due("give", x.give(200), 2);
+        Check.due("leaked", x.account(2), 80 + 400);
         Check.due("turn", x.count(5), 2);
         Check.due("pairs", x.count(4), 1);
         Check.due("begin tells the hand-overs", x.begin(3), 4);

@@ -131,6 +131,14 @@ public final class TextsTest {
         Check.due("no end yet", x.fault(2), 3);
         Check.type(x, ";");
         Check.due("none", x.fault(0), Check.NOT_FOUND);
+        x.clearText();
+        Check.type(x, "s1");
+        Check.due("what was cleared is gone", x.fault(2), 2);
+        Check.type(x, ";l0,1,2");
+        x.clearText();
+        Check.type(x, "s1;l");
+        Check.due("what was cleared is gone", x.fault(0), 3);
+        Check.due("what was cleared is gone", x.fault(2), 1);
     }
 
     private static void promise21FaultWrong() {

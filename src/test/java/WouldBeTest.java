@@ -50,6 +50,12 @@ public final class WouldBeTest {
         Check.due("no change", x.count(7), 4);
         Check.due("no charge", x.account(0), 1000 + 500 + 4000 + 600);
         Check.due("no charge", x.stageOf(0, 0), 600);
+        x.stage(1, 300, 0);
+        x.give(9000);
+        Check.due("nothing of what is there", x.echo(100, 2), 70);
+        Check.due("nothing of what is there", x.echo(0, 1), 0);
+        Check.due("nothing of what is there", x.worn(1), 10000);
+        Check.due("it is there", x.stageOf(1, 0) > 0 ? 1 : 0, 1);
     }
 
     private static void promise13EchoWrong() {
@@ -126,6 +132,12 @@ public final class WouldBeTest {
         Check.due("the output at the number of stages", x.worn(1), 8990);
         x.give(777);
         Check.due("of an empty line", x.worn(1), 8990);
+        x.begin(10);
+        Check.due("of ten stages", x.worn(0), 0);
+        x.stage(9, 0, 200);
+        Check.due("the tenth", x.worn(0), 9);
+        // 8990 of 10000 leave stage 0, and 8083 of these stage 1.
+        Check.due("the tenth", x.worn(1), 8083);
     }
 
     private static void promise15WornSpills() {
@@ -267,6 +279,11 @@ public final class WouldBeTest {
         Check.due("the text stays", x.count(8), 13);
         x.clearText();
         Check.holds("all as before play", all(x).equals(before));
+        x.set(1, 0);
+        x.idle(40);
+        x.undo();
+        x.undo();
+        Check.holds("all as before idle without references", all(x).equals(before));
         Check.type(x, "s");
         x.give(3);
         x.clearText();
