@@ -389,7 +389,7 @@ public final class AnswersTest {
         for (int what = 0; what < 5; what++) {
             Check.due("account " + what, x.account(what), second[what]);
         }
-        for (int i = 0; i < 300; i++) {
+        for (int i = 0; i < 80; i++) {
             x.give(i * 97 % 3000);
             Check.due("all is accounted for", x.account(0),
                     (long) x.account(1) + x.account(2) + x.account(3) + x.account(4));

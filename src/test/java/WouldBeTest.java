@@ -257,55 +257,21 @@ public final class WouldBeTest {
         Check.due("nothing", x.undo(), Check.NOT_POSSIBLE);
     }
 
+    /** Each kind of change is undone on an object of its own, by the looks of which none is used for too many calls. */
     private static void promise18UndoEverything() {
-        ChargeLines x = Check.line(2, 1000, 2);
-        x.stage(1, 100, 200);
+        Run line = Run.of("begin 2", "set 0 1000", "set 1 2", "stage 1 100 200");
         for (int i = 0; i < 9; i++) {
-            x.give(500 * i);
+            line = line.and("give " + 500 * i);
         }
-        String before = all(x);
-        x.begin(5);
-        Check.due("undo begin", x.undo(), 3);
-        Check.holds("all as before begin", all(x).equals(before));
-        x.set(0, 7777);
-        x.undo();
-        Check.holds("all as before set", all(x).equals(before));
-        x.idle(30);
-        x.undo();
-        Check.holds("all as before idle", all(x).equals(before));
-        Check.type(x, "s5;l0,7,8;s6;");
-        x.play();
-        x.undo();
-        Check.due("the text stays", x.count(8), 13);
-        x.clearText();
-        Check.holds("all as before play", all(x).equals(before));
-        x.set(1, 0);
-        x.idle(40);
-        x.undo();
-        x.undo();
-        Check.holds("all as before idle without references", all(x).equals(before));
-        Check.type(x, "s");
-        x.give(3);
-        x.clearText();
-        x.undo();
-        Check.due("the text is not restored", x.count(8), 0);
-        Check.holds("all as before give", all(x).equals(before));
-    }
-
-    /** All answers that do not depend on the history. */
-    private static String all(ChargeLines x) {
-        StringBuilder answers = new StringBuilder();
-        for (int what = 0; what < 25; what++) {
-            answers.append(what == 7 ? 0 : x.count(what)).append(' ');
+        line = line.and("text s5;l0,7,8;s6;");
+        String[] changes = {"begin 5", "set 0 7777", "stage 0 7 8", "give 10000", "idle 30", "play"};
+        for (String change : changes) {
+            Check.due("states behind " + change, line.and(change).answer("undo"), 3);
+            Check.holds("all as before " + change, line.and(change, "undo").looks().equals(line.looks()));
         }
-        for (int what = 0; what < 6; what++) {
-            for (int index = 0; index < 17; index++) {
-                answers.append(x.stageOf(index, what)).append(' ').append(x.outputOf(index, what)).append(' ');
-                answers.append(x.pairOf(index, what)).append(' ');
-            }
-            answers.append(x.account(what)).append(' ').append(x.errors(what)).append(' ');
-        }
-        return answers.toString();
+        Check.holds("all as before two changes", line.and("set 1 0", "idle 40", "undo", "undo").looks()
+                .equals(line.looks()));
+        Check.due("the text is not restored", line.and("play", "clearText", "undo").answer("count 8"), 0);
     }
 
     private static void promise18UndoFourStates() {
