@@ -16,8 +16,10 @@ public final class AnswersEdgesTest {
         sameOutputs();
         withoutAny();
         withOne();
+        inTheOrderOfTheirOutputs();
         between();
         lowerOnes();
+        roundedDownBetween();
         belowAndAbove();
         towardsWhatIsLess();
         aboveAMillion();
@@ -143,6 +145,18 @@ public final class AnswersEdgesTest {
         least.due("mended 0", 0).due("mended 1", 1).due("mended 100000", 100000);
     }
 
+    private static void inTheOrderOfTheirOutputs() {
+        Check.sentence("With more, in the order of their outputs:");
+        int[][] orders = {{10, 20, 30}, {10, 30, 20}, {20, 10, 30}, {20, 30, 10}, {30, 10, 20}, {30, 20, 10}};
+        for (int[] sizes : orders) {
+            // 7 of 10, 14 of 20, 21 of 30, whichever reference they are of.
+            Run three = withPairs(300, sizes[0], 300, sizes[1], 300, sizes[2]);
+            three.due("count 4", 3).due("mended 6", 8).due("mended 7", 10).due("mended 8", 11).due("mended 13", 18)
+                    .due("mended 14", 20).due("mended 15", 21).due("mended 20", 28).due("mended 21", 30)
+                    .due("mended 22", 31);
+        }
+    }
+
     private static void between() {
         Check.sentence("of the two with the outputs p and q (p below q) and sizes s and t between which the output is "
                 + "(p or more, q or less;");
@@ -158,12 +172,26 @@ public final class AnswersEdgesTest {
 
     private static void lowerOnes() {
         Check.sentence("of two such the lower ones)");
+        // By the lower ones and by the upper ones it is the size of the one between them.
         rising().due("mended 4000", 4000);
         falling().due("mended 420", 600);
-        // Reference 2 in the middle, reference 0 the lowest, and the other way round.
         withPairs(0, 10, 0, 30, 0, 20).due("mended 10", 10).due("mended 20", 20).due("mended 30", 30);
         withPairs(0, 30, 0, 20, 0, 10).due("mended 10", 10).due("mended 20", 20).due("mended 30", 30);
         withPairs(0, 20, 0, 30, 0, 10).due("mended 10", 10).due("mended 20", 20).due("mended 30", 30);
+    }
+
+    private static void roundedDownBetween() {
+        Check.sentence("it is s plus ((output less p) times (t less s)) divided by (q less p), rounded down;");
+        // 900 of 1000 and 4000 of 4000: 3000 in 3100.
+        rising().due("mended 901", 1000).due("mended 930", 1029).due("mended 931", 1030).due("mended 932", 1030)
+                .due("mended 3999", 3999);
+        // One beside the other there is nothing between them: 7000 of 10000, 7001 of 7001.
+        Run beside = withPairs(300, 10000, 0, 7001, 0, 10000);
+        beside.due("mended 7000", 10000).due("mended 7001", 7001).due("mended 7002", 7002).due("mended 6999", 9998);
+        // Where the sizes are the same it is flat.
+        Run flat = withPairs(300, 10000, 200, 10000, 0, 10000);
+        flat.due("mended 7000", 10000).due("mended 7777", 10000).due("mended 8000", 10000).due("mended 9999", 10000)
+                .due("mended 6999", 9998).due("mended 10001", 10001);
     }
 
     private static void belowAndAbove() {
@@ -320,6 +348,7 @@ public final class AnswersEdgesTest {
     }
 
     private static void promise7What() {
+        Check.sentence("- `what`: 0: its charge; 1: what stays, in thousandths; 2: what leaks, in thousandths;");
         Check.sentence("Returns the number; INVALID_ARGUMENT if an argument is out of range.");
         Run run = Run.of("give 3");
         run.refuses("stageOf 0 -1", Check.INVALID).refuses("stageOf 0 6", Check.INVALID)
@@ -362,6 +391,8 @@ public final class AnswersEdgesTest {
     }
 
     private static void promise8Refused() {
+        Check.sentence("- `what`: 0: its number; 1: the sample to which it belongs; 2: the output; 3: the mended one; "
+                + "4: 1 if it belongs to a reference, otherwise 0;");
         Check.sentence("Returns the number; INVALID_ARGUMENT if what is out of range or index is negative;");
         Run none = Run.of("give 5");
         Run some = Run.of("set 1 2").idles(40);
@@ -396,6 +427,7 @@ public final class AnswersEdgesTest {
     }
 
     private static void promise9Range() {
+        Check.sentence("- `what`: 0: the output; 1: the size");
         Check.sentence("- `reference`: 0 to 2");
         Run none = Run.of("give 5");
         for (Run run : new Run[] {none, rising()}) {
@@ -503,6 +535,13 @@ public final class AnswersEdgesTest {
         one.and("idle 1").due("errors 3", Float.floatToIntBits(2550f));
         one.and("idle 2").due("errors 3", Float.floatToIntBits(5730f / 3f));
         mendedTooHigh().due("errors 3", Float.floatToIntBits(990000f));
+        // At each power of two the exponent is one more: what is spilled of one sample is the mean.
+        for (int mean = 1; mean <= 8192; mean *= 2) {
+            for (int error = mean - 1; error <= mean + 1; error++) {
+                Run spilled = Run.of("begin 2", "set 0 1000", "give " + (1000 + error), "idle 2");
+                spilled.due("errors 3", Float.floatToIntBits((float) error));
+            }
+        }
         // One error of 1 in one to sixteen outputs.
         Run small = Run.of("begin 2", "stage 1 0 300", "give 4", "idle 2");
         for (int many = 1; many <= 16; many++) {

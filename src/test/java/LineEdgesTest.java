@@ -20,9 +20,11 @@ public final class LineEdgesTest {
         samplesOfAHandOver();
         partsOfAStage();
         whatComesFromTheStageAhead();
+        whatMovesOutOfTheLastStage();
         aboveTheCapacity();
         aboveTheCapacityLater();
         aboveTheFirstCapacity();
+        aboveAsMuchAsCanBe();
         capacityMadeLess();
         numbersFromNought();
         outputsThatBelongToSamples();
@@ -145,6 +147,19 @@ public final class LineEdgesTest {
         ten.and("give 0").due("stageOf 9 0", 0).due("account 1", 10);
     }
 
+    private static void whatMovesOutOfTheLastStage() {
+        Check.sentence("What moves out of the last stage is the output.");
+        Run two = Run.of("begin 2", "stage 1 300 300", "give 10000", "give 0");
+        two.due("stageOf 1 5", 4900).due("account 1", 0).due("count 2", 0);
+        two.and("give 0").due("outputOf 0 2", 4900).due("account 1", 4900).due("stageOf 1 0", 3000);
+        // The output is not held by the capacity: it is in no stage any more.
+        two.and("set 0 1000", "give 0").due("outputOf 0 2", 4900).due("stageOf 1 0", 1000).due("account 3", 2000);
+        Run none = Run.of("begin 10", "give 10000").idles(9);
+        none.due("account 1", 0).and("give 0").due("account 1", 10000).due("outputOf 0 2", 10000);
+        Run nothing = Run.of("begin 2").idles(3);
+        nothing.due("outputOf 0 2", 0).due("account 1", 0);
+    }
+
     private static void aboveTheCapacity() {
         Check.sentence("What a stage has above the capacity (setting 0) is spilled.");
         Run thousand = Run.of("set 0 1000");
@@ -177,6 +192,32 @@ public final class LineEdgesTest {
         letGo(three, 22854).due("stageOf 2 0", 22854).due("account 3", 1);
         letGo(three, 22855).due("stageOf 2 0", 22855).due("account 3", 0);
         letGo(three, 100000).due("stageOf 2 0", 22855).due("account 3", 0);
+    }
+
+    /**
+     * Ten full stages are let go one behind the other. More than some 52857 can never come together in a stage (each one
+     * adds three sevenths of 10000 to the 14285 of the first), so that a capacity of 100000 never spills.
+     */
+    private static void aboveAsMuchAsCanBe() {
+        Check.sentence("0 capacity (1000 to 100000; 20000)");
+        Run ten = Run.of("begin 10", "set 0 100000");
+        for (int stage = 0; stage < 10; stage++) {
+            ten = ten.and("stage " + stage + " 300 0");
+        }
+        ten = ten.times(60, "give 10000").due("stageOf 9 0", 14285);
+        Run most = ten;
+        Run held = ten.and("set 0 52850");
+        Run spilled = ten.and("set 0 52849");
+        for (int stage = 0; stage < 9; stage++) {
+            String[] letGo = {"stage " + stage + " 0 0", "give 0"};
+            most = most.and(letGo);
+            held = held.and(letGo);
+            spilled = spilled.and(letGo);
+        }
+        most.due("stageOf 9 0", 52850).due("account 3", 0);
+        held.due("stageOf 9 0", 52850).due("account 3", 0);
+        spilled.due("stageOf 9 0", 52849).due("account 3", 1);
+        most.and("stage 9 0 300", "give 0").due("outputOf 0 2", 36995).due("outputOf 0 5", 26995);
     }
 
     private static Run letGo(Run three, int capacity) {

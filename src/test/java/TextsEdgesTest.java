@@ -44,6 +44,7 @@ public final class TextsEdgesTest {
         promise21Refused();
         promise21NoFault();
         promise21NoCause();
+        promise21NothingIsLeft();
         promise21OfTheStagesThereAre();
     }
 
@@ -314,6 +315,7 @@ public final class TextsEdgesTest {
     }
 
     private static void promise21Refused() {
+        Check.sentence("- `what`: 0: its position; 1: its reason; 2: its cause");
         Check.sentence("Returns that; INVALID_ARGUMENT if what is out of range;");
         Run[] runs = {Run.of("give 4"), typed("s1;"), typed("x"), typed("l9,1,1;")};
         for (Run run : runs) {
@@ -337,6 +339,19 @@ public final class TextsEdgesTest {
         typed("s1;l9,999,0;").due("fault 0", 3).due("fault 1", 2).refuses("fault 2", Check.NOT_FOUND);
         // Nor is there one left of what was asked before.
         typed("s10001;").and("fault 2", "clearText", "text l4,0,0;").due("fault 2", Check.NOT_FOUND);
+    }
+
+    private static void promise21NothingIsLeft() {
+        Check.sentence("`int fault(int what)`: Tells about the fault of the text.");
+        String[] faults = {"l0,99999,99999;", "l9,99999,99999;", "s99999;", "l0,99999,99999", "x"};
+        for (String before : faults) {
+            Run cleared = typed(before).and("?fault 0", "?fault 1", "?fault 2", "?play", "clearText");
+            cleared.and("text s1;").due("fault 0", Check.NOT_FOUND).due("fault 2", Check.NOT_FOUND).due("play", 1);
+            cleared.and("text l0,1,2;").due("fault 0", Check.NOT_FOUND).due("play", 1);
+            cleared.due("fault 1", Check.NOT_FOUND).due("play", 0);
+            faulty(cleared.and("text l0,1,301;"), 0, 3, 2);
+            faulty(cleared.and("text s"), 0, 1, 1);
+        }
     }
 
     private static void promise21OfTheStagesThereAre() {
